@@ -1077,10 +1077,9 @@ public final class EdgesTest {
     private static void runLooksAtTheFirstNodes() {
         sentence = "9: Looks at the first nodes of all sets in order: the best plan of those";
         WorksBudget x = row(1, 3, 0, 1);
-        long[] worths = {3, 3, 3, 3, 3, 3, 3, 3};
         for (int nodes = 1; nodes <= 8; nodes++) {
             due("run(" + nodes + ")", x.run(nodes), nodes < 8 ? 1 : 0);
-            due("worth() of all that hold", x.worth(), worths[nodes - 1]);
+            due("the first set holds, and none is worth more", x.worth(), 3);
         }
         // Only the later sets are cheap enough: {0}, {1}, {2}, {} at the places 4, 6, 7, 8.
         WorksBudget y = new WorksBudget(1);
@@ -1173,7 +1172,9 @@ public final class EdgesTest {
         due("after 2", x.proved(), true);
         due("run(3)", x.run(3), 1);
         due("after 2 and 1", x.proved(), false);
-        due("run(0)", empty().run(0), BAD);
+        WorksBudget y = empty();
+        due("run(0)", y.run(0), BAD);
+        due("after BAD alone", y.proved(), false);
     }
 
     private static void provedUntilSomethingIsTold() {
@@ -1440,7 +1441,7 @@ public final class EdgesTest {
         }
         WorksBudget y = row(1, 1, MILLION, MILLION - 1);
         y.budget(0, MILLION - 1);
-        due("just below 999999 by a little", y.bound(1), MILLION - 2);
+        due("a millionth part above 999998", y.bound(1), MILLION - 2);
     }
 
     private static void clashWhileSomePlanHolds() {
