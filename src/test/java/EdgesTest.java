@@ -51,6 +51,7 @@ public final class EdgesTest {
         oldLeavesThePlan();
         whatFoundNoneLeavesNone();
         questionsLeaveAllAsItWas();
+        questionsLeaveTheNextSearch();
     }
 
     private static void telling() {
@@ -763,6 +764,46 @@ public final class EdgesTest {
         leaves("list(0, 0)", EdgesTest::ordinary, x -> x.list(0, 0), 0);
         leaves("earlier(1)", EdgesTest::ordinary, x -> x.earlier(1), 2);
         leaves("holds(0)", EdgesTest::ordinary, x -> bit(x.holds(0)), 1);
+    }
+
+    /** The best plan comes late, so that a search which ends too early does not find it. */
+    private static WorksBudget lateBest() {
+        WorksBudget x = new WorksBudget(1);
+        for (int t = 0; t < 4; t++) {
+            x.thing(t);
+            x.choice(t, 0, 1000, 10 + t);
+        }
+        x.budget(0, 1000);
+        return x;
+    }
+
+    private static void questionsLeaveTheNextSearch() {
+        sentence = "run(), changes(), policy() find the same, whatever was asked or found before";
+        for (int asked = 0; asked < 7; asked++) {
+            WorksBudget x = lateBest();
+            ask(x, asked);
+            due("run(16) after " + asked, x.run(16), 0);
+            due("the best plan after " + asked, plan(x), 0b1000);
+            ask(x, asked);
+            due("changes(16) after " + asked, x.changes(16), asked == 6 ? 1 : 0);
+            due("the nearest plan after " + asked, plan(x), asked == 6 ? 0b0010 : 0);
+            ask(x, asked);
+            due("price(0, 0) after " + asked, x.price(0, 0), 12);
+            due("policy(1) after " + asked, x.policy(1), 13);
+        }
+    }
+
+    /** Asks, or finds, something; the last one makes an old plan that does not hold. */
+    private static void ask(WorksBudget x, int which) {
+        switch (which) {
+            case 0 -> due("clash(0)", x.clash(0), BAD);
+            case 1 -> due("price(0, 0)", x.price(0, 0), 12);
+            case 2 -> due("price(0, 1)", x.price(0, 1), 12);
+            case 3 -> due("changes(16)", x.changes(16), 0);
+            case 4 -> due("run(15)", x.run(15), 1);
+            case 5 -> due("policy(0)", x.policy(0), 13);
+            default -> due("old plan", x.old(0, true) && x.old(1, true), true);
+        }
     }
 
     // ---- Promises 1 to 8: what is told
