@@ -33,6 +33,7 @@ public final class PromisesTest {
         list();
         earlier();
         holds();
+        readmeExample();
         System.out.println(wrong == 0 ? "all promises are kept" : wrong + " answers are not as due");
         if (wrong != 0) {
             System.exit(1);
@@ -943,5 +944,19 @@ public final class PromisesTest {
         due("holds(-1)", x.holds(-1), false);
         x.policy(9);
         due("no plan", x.holds(0), false);
+    }
+
+    private static void readmeExample() {
+        promise = "README.md";
+        WorksBudget b = new WorksBudget(2);
+        int bridge = b.thing(120);
+        int soon = b.choice(bridge, 0, 700, 50);
+        int late = b.choice(bridge, 1, 650, 45);
+        due("budget(1, 650)", b.budget(1, 650), true);
+        due("run(20_000)", b.run(20_000), 0);
+        due("chosen(soon)", b.chosen(soon), false);
+        due("chosen(late)", b.chosen(late), true);
+        due("worth()", b.worth(), 45);
+        due("price(0, 0)", b.price(0, 0), 5);
     }
 }
